@@ -290,7 +290,10 @@ public final class SentenceHouse {
         if (what == 0) {
             return latest.firstBroken(c);
         }
-        return what <= WAY_LIMIT ? WordSearch.entryOf(latest.wayOf[c], what - 1) : latest.pairOf(c, what - 1 - WAY_LIMIT);
+        if (what <= WAY_LIMIT) {
+            return WordSearch.entryOf(latest.wayOf[c], what - 1);
+        }
+        return latest.pairOf(c, what - 1 - WAY_LIMIT);
     }
 
     public int candidates() {
@@ -525,6 +528,10 @@ public final class SentenceHouse {
 
         private int lengthOf(int id) {
             return id < 0 || id >= size ? 0 : starts[id + 1] - starts[id];
+        }
+
+        private int firstByteOf(int id) {
+            return id < 0 || id >= size ? 0 : pool[starts[id]];
         }
 
         private int byteOf(int id, int i) {
@@ -851,8 +858,7 @@ public final class SentenceHouse {
         private int fault;
         private int later;
         private int ring;
-        private final int[] toldDeep = new int[TOLD_PAIR_LIMIT];
-        private final int[] toldWritten = new int[TOLD_PAIR_LIMIT];
+        private final int[] toldPairs = new int[2 * TOLD_PAIR_LIMIT];
         private int toldCount;
         private int pairDeep;
         private int pairWritten;
@@ -921,7 +927,7 @@ public final class SentenceHouse {
         }
 
         private boolean fail(int code) {
-            fault = code + 16 * place();
+            fault = code + 16 * (at < tokens.size ? tokens.places[at] : tokens.length);
             return false;
         }
 
@@ -931,7 +937,7 @@ public final class SentenceHouse {
 
         /** The letter that stands here; in the second pass it's asked whether the text tells it. */
         private int letterHere() {
-            int letter = names.byteOf(value(), 0);
+            int letter = names.firstByteOf(value());
             if (second && text.letterNumber(letter) == NONE) {
                 report(UNKNOWN, place());
             }
@@ -954,7 +960,7 @@ public final class SentenceHouse {
                     case Tokens.WORD_LETTERS: fine = readLetters(); break;
                     case Tokens.WORD_PAIR: fine = readPairs(); break;
                     case Tokens.WORD_SET: fine = readSet(); break;
-                    case Tokens.WORD_RULE: fine = readRule(); break;
+                    case Tokens.WORD_RULE: fine = readRuleHead() && readContexts(); break;
                     case Tokens.WORD_LEXICON: fine = readLexicon(); break;
                     case Tokens.WORD_GRAMMAR: fine = readGrammar(); break;
                     case Tokens.WORD_START: fine = readStart(); break;
@@ -1026,9 +1032,9 @@ public final class SentenceHouse {
         private void tellPair(int place) {
             int ofThisDeep = 0;
             for (int p = 0; p < toldCount; p++) {
-                if (toldDeep[p] == pairDeep) {
+                if (toldPairs[2 * p] == pairDeep) {
                     ofThisDeep++;
-                    if (toldWritten[p] == pairWritten) {
+                    if (toldPairs[2 * p + 1] == pairWritten) {
                         report(TWICE, place);
                     }
                 }
@@ -1038,8 +1044,8 @@ public final class SentenceHouse {
                 report(KIND, place);
             }
             if (toldCount < TOLD_PAIR_LIMIT) {
-                toldDeep[toldCount] = pairDeep;
-                toldWritten[toldCount] = pairWritten;
+                toldPairs[2 * toldCount] = pairDeep;
+                toldPairs[2 * toldCount + 1] = pairWritten;
                 toldCount++;
             }
         }
@@ -1052,7 +1058,7 @@ public final class SentenceHouse {
                 }
             }
             for (int p = 0; p < toldCount; p++) {
-                text.addPair(toldDeep[p], toldWritten[p]);
+                text.addPair(toldPairs[2 * p], toldPairs[2 * p + 1]);
             }
         }
 
@@ -1103,7 +1109,8 @@ public final class SentenceHouse {
 
         // ---- rules for letters
 
-        private boolean readRule() {
+        /** A rule up to its operator. */
+        private boolean readRuleHead() {
             if (text.ruleCount >= RULE_LIMIT) {
                 return fail(LIMIT);
             }
@@ -1129,11 +1136,10 @@ public final class SentenceHouse {
             if (kind() < Tokens.ONLY || kind() > Tokens.NEVER) {
                 return fail(SYNTAX);
             }
-            Rule rule = text.rules[text.ruleCount];
-            rule.begin(name, kind(), pair, text.pairsOfLetter(pairDeep));
-            at++;
+            text.rules[text.ruleCount].begin(name, kind(), pair, text.pairsOfLetter(pairDeep));
             text.ruleCount++;
-            return readContexts(rule);
+            at++;
+            return true;
         }
 
         private boolean atAtom() {
@@ -1141,7 +1147,9 @@ public final class SentenceHouse {
             return atName() || kind == '@' || kind == '#' || kind == '(';
         }
 
-        private boolean readContexts(Rule rule) {
+        /** The contexts of the rule whose head was read last. */
+        private boolean readContexts() {
+            Rule rule = text.rules[text.ruleCount - 1];
             for (int c = 0; c <= CONTEXT_LIMIT; c++) {
                 if (!atAtom() && kind() != '_') {
                     return fail(SYNTAX);
@@ -1279,21 +1287,7 @@ public final class SentenceHouse {
                 return fail(LIMIT);
             }
             at++;
-            if (!atName()) {
-                return fail(SYNTAX);
-            }
-            int[] lexicon = text.lexicons[lexiconAt];
-            for (int l = 0; l < lexiconAt; l++) {
-                if (text.lexicons[l][LEXICON_NAME] == value()) {
-                    report(TWICE, place());
-                }
-            }
-            lexicon[LEXICON_NAME] = value();
-            lexicon[LEXICON_FIRST] = text.entryCount;
-            lexiconAt++;
-            text.lexiconCount = Math.max(text.lexiconCount, lexiconAt);
-            at++;
-            if (!take('{')) {
+            if (!readLexiconName() || !take('{')) {
                 return false;
             }
             for (int e = 0; e <= ENTRIES_OF_ONE && kind() != '}'; e++) {
@@ -1303,17 +1297,42 @@ public final class SentenceHouse {
                 if (e >= ENTRIES_OF_ONE || text.entryCount >= ENTRY_LIMIT) {
                     return fail(LIMIT);
                 }
-                if (!readEntry()) {
+                if (!readEntryHead(text.entries[text.entryCount])) {
                     return false;
                 }
+                int structurePlace = place();
+                graph.clear();
+                int top = kind() == '{' ? readStructure() : graph.addNode();
+                if (top == NONE || !take(';')) {
+                    return false;
+                }
+                keepEntry(top, structurePlace);
             }
-            lexicon[LEXICON_END] = text.entryCount;
+            text.lexicons[lexiconAt - 1][LEXICON_END] = text.entryCount;
             return take('}');
         }
 
-        private boolean readEntry() {
-            int[] entry = text.entries[text.entryCount];
-            int[] shape = text.shapes[text.entryCount];
+        private boolean readLexiconName() {
+            if (!atName()) {
+                return fail(SYNTAX);
+            }
+            int name = value();
+            for (int l = 0; l < lexiconAt; l++) {
+                if (text.lexicons[l][LEXICON_NAME] == name) {
+                    report(TWICE, place());
+                }
+            }
+            text.lexicons[lexiconAt][LEXICON_NAME] = name;
+            text.lexicons[lexiconAt][LEXICON_FIRST] = text.entryCount;
+            text.lexicons[lexiconAt][LEXICON_END] = text.entryCount;
+            lexiconAt++;
+            text.lexiconCount = Math.max(text.lexiconCount, lexiconAt);
+            at++;
+            return true;
+        }
+
+        /** An entry up to its cost. */
+        private boolean readEntryHead(int[] entry) {
             if (!readDeep(entry) || !take(Tokens.TO)) {
                 return false;
             }
@@ -1329,21 +1348,16 @@ public final class SentenceHouse {
             }
             at++;
             entry[ENTRY_COST] = readCost();
-            shape[0] = 0;
-            if (kind() == '{') {
-                int bracePlace = place();
-                int root = readStructure();
-                if (root == NONE) {
-                    return false;
-                }
-                if (!graph.settle(root)) {
-                    ring = Math.min(ring, RING + 16 * bracePlace);
-                } else {
-                    Graph.copyShape(graph.result, shape);
-                }
+            return true;
+        }
+
+        private void keepEntry(int top, int structurePlace) {
+            if (graph.settle(top)) {
+                Graph.copyShape(graph.result, text.shapes[text.entryCount]);
+            } else {
+                ring = Math.min(ring, RING + 16 * structurePlace);
             }
             text.entryCount++;
-            return take(';');
         }
 
         private boolean readDeep(int[] entry) {
@@ -1610,7 +1624,7 @@ public final class SentenceHouse {
         private static final int BORDER = PAIR_LIMIT;
         private static final int CONTEXTS = 3;
 
-        /** A state: atoms that fit ahead; atoms that must not go on; how many needs; the atoms that each may go on by. */
+        /** A state: atoms that fit ahead, atoms that must not go on, how many needs, the atoms each may go on by. */
         private static final int AHEAD = 0;
         private static final int BANNED = 1;
         private static final int NEEDS = 2;
@@ -1795,7 +1809,7 @@ public final class SentenceHouse {
             return true;
         }
 
-        /** Moves the needs over one pair; those that have come to their end are met. How many are left; NONE: one can't be met. */
+        /** Moves the needs over one pair; one that comes to its end is met. How many are left; NONE: one can't be. */
         private int carryNeeds(int[] state, int from, int to, int fit) {
             int needs = 0;
             for (int n = 0; n < state[from + NEEDS] && n < WORD_LIMIT; n++) {
@@ -1929,7 +1943,7 @@ public final class SentenceHouse {
         }
 
         private void makeAtom(int node, int name) {
-            if (isNode(node)) {
+            if (node >= 0 && node < nodes) {
                 atoms[node] = name;
             }
         }
@@ -2495,7 +2509,7 @@ public final class SentenceHouse {
         }
     }
 
-    /** A word's candidates, in order, and its analyses. A way is one number: a byte an entry, 1 more than its number. */
+    /** A word's candidates, in order, and its analyses. A way is one number: of each entry 1 more than it, a byte. */
     private static final class WordSearch {
         private final Graph graph;
         private Text text;
@@ -2716,7 +2730,10 @@ public final class SentenceHouse {
         private static final int COST = 4;
         private static final int NODES = 5;
         private static final int CAT = 6;
-        private static final int WIDTH = 7;
+        /** The rules with one tree that stand over the row from this tree down, a bit each. */
+        private static final int CHAIN = 7;
+        private static final int RANK = 8;
+        private static final int WIDTH = 9;
 
         private final long[] words = new long[SENTENCE_LIMIT];
         private int length;
@@ -2784,9 +2801,7 @@ public final class SentenceHouse {
         private int workedLately;
         private final int[] slots = new int[SENTENCE_LIMIT * SENTENCE_LIMIT];
         private final Row bench = new Row();
-        private final int[] chainRules = new int[TREE_LIMIT];
         private final int[] order = new int[TREE_LIMIT];
-        private final int[] ranks = new int[TREE_LIMIT];
         private final int[] tops = new int[3];
         private final int[] letters = new int[WORD_LIMIT];
         private final int[] stack = new int[STACK_ROOM];
@@ -2856,7 +2871,7 @@ public final class SentenceHouse {
                     System.arraycopy(bench.trees[order[t]], 0, row.trees[t], 0, Row.WIDTH);
                     Graph.copyShape(bench.shapes[order[t]], row.shapes[t]);
                     if (row.isChain(t)) {
-                        row.trees[t][Row.LEFT] = ranks[row.trees[t][Row.LEFT]];
+                        row.trees[t][Row.LEFT] = bench.trees[row.trees[t][Row.LEFT]][Row.RANK];
                     }
                 }
             }
@@ -2893,7 +2908,7 @@ public final class SentenceHouse {
                 order[at] = t;
             }
             for (int k = 0; k < bench.size; k++) {
-                ranks[order[k]] = k;
+                bench.trees[order[k]][Row.RANK] = k;
             }
         }
 
@@ -2971,7 +2986,7 @@ public final class SentenceHouse {
         private boolean growChains() {
             for (int t = 0; t < bench.size; t++) {
                 int[] tree = bench.trees[t];
-                int used = bench.isChain(t) ? chainRules[t] : 0;
+                int used = tree[Row.CHAIN];
                 for (int g = 0; g < text.grammarCount; g++) {
                     int[] grammar = text.grammar[g];
                     if (grammar[GRAMMAR_SECOND] == NONE && (used >> g & 1) == 0 && mayBe(tree, grammar[GRAMMAR_FIRST])
@@ -2979,7 +2994,7 @@ public final class SentenceHouse {
                         if (!addTree(g, t, NONE, 0, grammar[GRAMMAR_COST] + tree[Row.COST], 1 + tree[Row.NODES])) {
                             return false;
                         }
-                        chainRules[bench.size - 1] = used | 1 << g;
+                        bench.trees[bench.size - 1][Row.CHAIN] = used | 1 << g;
                     }
                 }
             }
@@ -2999,6 +3014,7 @@ public final class SentenceHouse {
             tree[Row.COST] = cost;
             tree[Row.NODES] = nodes;
             tree[Row.CAT] = Graph.catOf(graph.result);
+            tree[Row.CHAIN] = 0;
             Graph.copyShape(graph.result, bench.shapes[bench.size]);
             bench.size++;
             return true;
