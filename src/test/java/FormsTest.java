@@ -128,7 +128,8 @@ public final class FormsTest {
         House.due("differ(1, 0)", house.it.differ(1, 0), 0);
         House.due("differ(2, 1)", house.it.differ(2, 1), ((4 * 32 + 0L) * 32 + 1) * 32 + 2);
         House.due("differ(1, 2)", house.it.differ(1, 2), (3 * 32 + 0) * 32 + 2);
-        House.due("differ beyond size 4", house.it.differ(3, 5), 0);
+        House.due("differ(3, 5)", house.it.differ(3, 5), 0);
+        House.due("differ beyond size 4", house.it.differ(5, 3), 0);
         House.due("differ(0, 4)", house.it.differ(0, 4), 2 * 32 + 3);
         House.due("differ(0, 6)", house.it.differ(0, 6), (((5 * 32 + 0L) * 32 + 0) * 32 + 0) * 32 + 1);
         House.due("differ(1, 1)", house.it.differ(1, 1), 0);

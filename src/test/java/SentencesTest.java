@@ -211,6 +211,20 @@ public final class SentencesTest {
         five.sentence("a", "b");
         House.due("24 times 24 pairs", five.it.parse(), -2);
         House.due("all rows are kept", five.it.count(12), 3);
+        // a and b have 20 trees each, b c has 20, and a b has one, or none: 20 * 20 + 1 * 1
+        String rim = "letters a b c; lexicon Root { a -> end {cat t k p}; " + "a -> end {cat t k q}; ".repeat(3)
+                + "b -> end {cat u k p}; " + "b -> end {cat u k q}; ".repeat(2) + "0 -> More; } "
+                + "lexicon More { b -> end {cat u k q}; c -> end {cat v}; } "
+                + "grammar t -> t : x0.k = q; grammar t -> t : x0.k = q; grammar u -> u : x0.k = q; grammar u -> u : x0.k = q;"
+                + "grammar w -> u v; start w; ";
+        House fits = House.of(rim);
+        fits.sentence("a", "b", "c");
+        House.due("400 pairs", fits.it.parse(), 0);
+        House above = House.of(rim + "grammar z -> t u : x1.k = p, x2.k = p;");
+        above.sentence("a", "b", "c");
+        House.due("401 pairs", above.it.parse(), -2);
+        above.it.remove(0);
+        House.due("of b c", above.it.parse(), 20);
     }
 
     private static void manyTrees() {

@@ -50,7 +50,9 @@ public final class TextTest {
         House.due("count(9)", x.count(9), 5000);
         House.due("back(1)", x.back(1), 4999);
         House.due("feed beyond 5,000", x.feed(1, 2, 3, 4, 5), -1);
-        House.due("back(19)", x.back(19), 4980);
+        House.due("back(18)", x.back(18), 4981);
+        House.due("feed to 5,001", x.feed(1, 2, 3, 4, 5), -1);
+        House.due("back(1)", x.back(1), 4980);
         House.due("feed to 5,000", x.feed(1, 2, 3, 4, 5), 5000);
         House.due("back(-1)", x.back(-1), -1);
         House.due("back(5001)", x.back(5001), -1);
