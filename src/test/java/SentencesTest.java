@@ -182,7 +182,8 @@ public final class SentencesTest {
     }
 
     private static void best() {
-        House house = House.of("letters a; lexicon Root { a -> end 7 {cat s}; a -> end 3 {cat s}; a -> end 1 {cat t}; a -> end 3 {cat s}; } start s;");
+        House house = House.of("letters a; lexicon Root { a -> end 7 {cat s}; a -> end 3 {cat s}; a -> end 1 {cat t};"
+                + " a -> end 3 {cat s}; } start s;");
         house.sentence("a");
         House.due("parse", house.it.parse(), 3);
         int[] due = {0, 1, 0};
@@ -250,6 +251,14 @@ public final class SentencesTest {
                 + "grammar t -> s; grammar t -> s; grammar t -> s; grammar t -> s; start t;");
         more.sentence("a");
         House.due("31 trees", more.it.parse(), -2);
+        String analyses = "lexicon B { " + "a -> end {cat s}; ".repeat(6) + "} start s; lexicon Root { " + "0 -> B; ".repeat(5);
+        House word = House.of("letters a; " + analyses + "}");
+        word.sentence("a");
+        House.due("30 analyses", word.it.parse(), 30);
+        House.due("the last one", word.it.node(29, 0, 0), 61);
+        House words = House.of("letters a; " + analyses + "a -> end; }");
+        words.sentence("a");
+        House.due("31 analyses", words.it.parse(), -2);
     }
 
     private static void manyWords() {
