@@ -1,6 +1,7 @@
 /** A SentenceHouse with a tape that takes texts of any size, and a count of wrong answers. */
 final class House {
     private static int wrong;
+    private static String sentence = "";
 
     final SentenceHouse it = new SentenceHouse();
 
@@ -8,17 +9,22 @@ final class House {
         return wrong;
     }
 
+    /** The sentence of the document that the answers behind this call are asked of; it is told with a wrong one. */
+    static void asks(String quoted) {
+        sentence = quoted;
+    }
+
     static void due(String what, long got, long want) {
-        if (got != want) {
-            wrong++;
-            System.out.println(what + " answered " + got + ", due is " + want);
-        }
+        due(what, Long.toString(got), Long.toString(want));
     }
 
     static void due(String what, String got, String want) {
         if (!got.equals(want)) {
             wrong++;
             System.out.println(what + " answered " + got + ", due is " + want);
+            if (!sentence.isEmpty()) {
+                System.out.println("  asked by: " + sentence);
+            }
         }
     }
 
@@ -100,6 +106,14 @@ final class House {
             word(i, words[i]);
         }
         return this;
+    }
+
+    /** The sentence becomes these words and no others. */
+    House only(String... words) {
+        while (it.count(10) > words.length) {
+            it.remove(0);
+        }
+        return sentence(words);
     }
 
     /** All that write() writes, or "NONE". */
