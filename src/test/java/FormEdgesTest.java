@@ -14,6 +14,8 @@ public final class FormEdgesTest {
         borderOnce();
         repeatsFromNone();
         missingSides();
+        threeContexts();
+        eightRules();
         longestStrings();
         differSizes();
         differOrder();
@@ -187,6 +189,41 @@ public final class FormEdgesTest {
         }
         judged("A:a => b _", "ccAaccAa", 0);
         judged("A:a => _ c", "bbAaccAacc", 1);
+    }
+
+    private static void threeContexts() {
+        House.asks("=>: at each place where a:b stands one of its CONTEXTS, at least, holds. /<=: where a:b stands none of them holds.");
+        String[] ahead = {"aa", "bb", "cc", "A0", "Ab"};
+        for (int i = 0; i < ahead.length; i++) {
+            int one = i < 3 ? 1 : 0;
+            judged("A:a => a _, b _, c _", ahead[i] + "Aa", one);
+            judged("A:a /<= a _, b _, c _", ahead[i] + "Aa", 1 - one);
+            judged("A:a <=> a _, b _, c _", ahead[i] + "Aa", one);
+            judged("A:b <= a _, b _, c _", ahead[i] + "Aa", 1 - one);
+            judged("A:b <=> a _, b _, c _", ahead[i] + "Aa", i == 3 ? 1 : 0);
+            judged("A:a => _ a, _ b, _ c", "Aa" + ahead[i], one);
+            judged("A:a /<= _ a, _ b, _ c", "Aa" + ahead[i], 1 - one);
+        }
+        // each context is whole: the left side of one and the right side of another are none
+        judged("A:a => a _ a, b _ b, c _ c", "aaAabb", 0);
+        judged("A:a => a _ a, b _ b, c _ c", "ccAacc", 1);
+        judged("A:a => a _ a, b _ b, c _ c", "aaAaaabbAabbccAacc", 1);
+        judged("A:a => a _ a, b _ b, c _ c", "aaAaaabbAabbccAabb", 0);
+    }
+
+    private static void eightRules() {
+        House.asks("6: how many of the rules hold of it");
+        StringBuilder s = new StringBuilder(LETTERS);
+        for (int r = 0; r < 8; r++) {
+            s.append("rule r").append(r).append(" A:a => # ").append("b ".repeat(r)).append("_;");
+        }
+        House house = House.of(s.toString());
+        for (int n = 0; n <= 9; n++) {
+            House.due("holds()", house.holds("bb".repeat(n) + "Aa"), n < 8 ? 1 : 0);
+            for (int r = 0; r < 8; r++) {
+                House.due("rule(" + r + ")", house.it.rule(r), r == n ? 1 : 0);
+            }
+        }
     }
 
     private static void longestStrings() {

@@ -23,6 +23,8 @@ public final class SentenceEdgesTest {
         manyWords();
         readingOrder();
         theBest();
+        theLargestCosts();
+        theTwelfthRule();
         fortyKept();
         keptComesToTheEnd();
         keptWithoutItsRows();
@@ -466,6 +468,39 @@ public final class SentenceEdgesTest {
                 House.due("node " + k, house.it.node(k, 0, 0), 33 + k);
             }
         }
+    }
+
+    private static void theLargestCosts() {
+        House.asks("the COST of one is the sum of its ENTRIES' (0 where none is told); its COST the sum of its ANALYSES' and its rules'");
+        House house = House.of("letters a b; lexicon Root { a -> A 999 {cat t}; b -> A {cat s}; } lexicon A { 0 -> B 999; } lexicon B { 0 -> C 999; } "
+                + "lexicon C { 0 -> end 999; } grammar s -> t s 999; grammar s -> s 999 : x1.f = p, x0.f = p; start s;");
+        house.only("b");
+        House.due("parse()", house.it.parse(), 2);
+        House.due("three of 999 and none", house.it.reading(0, 0), 3 * 999);
+        House.due("and a rule", house.it.reading(1, 0), 4 * 999);
+        House.due("the first is THE BEST", house.it.reading(0, 3), 1);
+        house.only("a", "b");
+        House.due("parse()", house.it.parse(), 4);
+        House.due("all that can be", house.it.reading(3, 0), (4 + 3 + 1 + 1 + 1) * 999);
+        int least = 0;
+        for (int k = 1; k < 4; k++) {
+            least = house.it.reading(k, 0) < house.it.reading(least, 0) ? k : least;
+        }
+        for (int k = 0; k < 4; k++) {
+            House.due("THE BEST", house.it.reading(k, 3), k == least ? 1 : 0);
+        }
+    }
+
+    private static void theTwelfthRule() {
+        House.asks("GRAMMAR rules are numbered from 0 on.");
+        House house = House.of("letters a; lexicon Root { a -> end {cat t}; } " + "grammar x -> y;".repeat(11) + "grammar s -> t; start s;");
+        house.only("a");
+        House.due("parse()", house.it.parse(), 1);
+        House.due("its tree", house.tree(0), "11[00] 32[00]");
+        House first = House.of("letters a; lexicon Root { a -> end {cat t}; } grammar s -> t;" + "grammar x -> y;".repeat(11) + "start s;");
+        first.only("a");
+        House.due("parse()", first.it.parse(), 1);
+        House.due("its tree", first.tree(0), "0[00] 32[00]");
     }
 
     /** A house for words of one letter, each a .. n. */

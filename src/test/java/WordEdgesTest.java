@@ -13,6 +13,7 @@ public final class WordEdgesTest {
         twoThousand();
         manyWord();
         goodCandidates();
+        theEighthRule();
         structuresOfForty();
         wayNumbers();
         candidateNumbers();
@@ -22,6 +23,7 @@ public final class WordEdgesTest {
         nearAtTheRims();
         nearEachOnce();
         nearOfMany();
+        nearOfFourteenLetters();
         nearbyBytes();
         nearbyOfTheLatest();
         House.close("WordEdgesTest");
@@ -200,6 +202,19 @@ public final class WordEdgesTest {
             House.due("candidate(" + c + ", 0)", house.it.candidate(c, 0), broken[c]);
         }
         House.due("way(0, 0)", house.it.way(0, 0), 1);
+    }
+
+    private static void theEighthRule() {
+        House.asks("13: what 0: the first rule, by numbers, that does not hold of it, 32 if all hold");
+        for (int first = 0; first <= 8; first++) {
+            StringBuilder s = new StringBuilder("letters a; lexicon Root { a -> end; } ");
+            for (int r = 0; r < 8; r++) {
+                s.append("rule r").append(r).append(r < first ? " a:a => _;" : " a:a /<= _;");
+            }
+            House house = House.of(s.toString());
+            House.due("analyse()", house.analyse("a"), first == 8 ? 1 : 0);
+            House.due("candidate(0, 0)", house.it.candidate(0, 0), first == 8 ? 32 : first);
+        }
     }
 
     /** A lexicon's ENTRY with so many features of its own. */
@@ -392,6 +407,18 @@ public final class WordEdgesTest {
         House.due("near() of a, which is MANY itself", house.near("a"), 1);
         House.due("b", house.nearby(0), "b");
         House.due("near() of 1,999", House.of(manyWays(0)).near("aa"), 1);
+    }
+
+    /** 7 by one taken out, 91 changed, 105 put in: the last ones of the row count, too. */
+    private static void nearOfFourteenLetters() {
+        House.asks("15: how many other WORDS of at most 8 come of it");
+        House house = House.of("letters n m l k j i h g f e d c b a; lexicon Root { n -> B; abcdef -> C; a -> D; bcdef -> C; } lexicon B { abcdef -> C; "
+                + "bcdef -> C; } lexicon C { g -> end; gn -> end; gg -> end; n -> end; 0 -> end; ng -> end; } lexicon D { abcdef -> C; acdef -> C; }");
+        House.due("near() of abcdefg", house.near("abcdefg"), 10);
+        String[] due = {"aabcdefg", "aacdefg", "abcdef", "abcdefgg", "abcdefgn", "abcdefn", "abcdefng", "bcdefg", "nabcdefg", "nbcdefg"};
+        for (int k = 0; k < due.length; k++) {
+            House.due("nearby " + k, house.nearby(k), due[k]);
+        }
     }
 
     private static void nearbyBytes() {
