@@ -16,6 +16,8 @@ public final class DeskEdgesTest {
         unifySharedSizes();
         unifyFails();
         unifyRings();
+        slotsUsedAgain();
+        deskBehindFailures();
         aboveSlots();
         aboveOfAtoms();
         aboveOfSharedNodes();
@@ -284,6 +286,45 @@ public final class DeskEdgesTest {
         house.lay(1, "{f #1 h {i #3} j #3}");
         House.due("no ring", house.it.unify(0, 1, 2), 5);
         House.due("slot 2", house.written(0, 2), "{f {g #1={i #2={}}} h #1 j #2}");
+    }
+
+    private static void slotsUsedAgain() {
+        House.asks("17: slot 0 to 7 of the desk becomes it");
+        House house = new House();
+        String[] large = {"{a p b q c r d s}", "{a #1={x p} b #1 c #1 d #1}", "{a {b {c {d p}}}}", "{d {} c {} b {} a {}}"};
+        String[] small = {"{}", "{a p}", "{b q}", "{c {}}", "{d {a p}}"};
+        for (String first : large) {
+            for (String then : small) {
+                house.lay(0, first);
+                house.lay(0, then);
+                House fresh = new House();
+                fresh.lay(0, then);
+                House.due("written", house.written(0, 0), then);
+                for (String other : new String[] {"{a p}", "{a {}}", "{b q}", "{c r}", "{d {}}", "{a #1 b #1}"}) {
+                    house.lay(1, other);
+                    fresh.lay(1, other);
+                    House.due(other + " above " + then, house.it.above(1, 0), fresh.it.above(1, 0));
+                    House.due(then + " above " + other, house.it.above(0, 1), fresh.it.above(0, 1));
+                }
+            }
+            house = new House();
+        }
+    }
+
+    private static void deskBehindFailures() {
+        House.asks("18: NONE, and nothing is changed, if they can't be");
+        House house = new House();
+        house.lay(0, "{f #1={g #2} h #2}");
+        house.lay(1, "{f #1 h #1}");
+        house.lay(2, "{f p}");
+        for (int turn = 0; turn < 40; turn++) {
+            House.due("a ring", house.it.unify(0, 1, 3), -1);
+            House.due("lay", house.lay(3, "{f #1 g #1 h {i j}}"), 0);
+            House.due("two ATOMS", house.it.unify(0, 2, 3), -1);
+            House.due("unify", house.it.unify(3, 3, 4), 4);
+            House.due("above", house.it.above(3, 4), 1);
+        }
+        House.due("written", house.written(0, 4), "{f #1={} g #1 h {i j}}");
     }
 
     private static void aboveSlots() {

@@ -16,14 +16,20 @@ public final class FormEdgesTest {
         missingSides();
         threeContexts();
         eightRules();
+        choicesOfTheirOwn();
+        theLastAtom();
         longestStrings();
         differSizes();
         differOrder();
+        differAtTheBorder();
+        differOfForbidden();
+        differOfAllPairs();
         differRefused();
         formsSizes();
         formsRefused();
         formsOfNone();
         hundredForms();
+        formsOfEightRules();
         formBytes();
         formOfTheLatest();
         House.close("FormEdgesTest");
@@ -226,6 +232,43 @@ public final class FormEdgesTest {
         }
     }
 
+    private static void choicesOfTheirOwn() {
+        House.asks("RE: ROW (\"|\" ROW)*: | one of both");
+        judged("A:a => b | c _ a", "bbAaaa", 1);
+        judged("A:a => b | c _ a", "ccAaaa", 1);
+        judged("A:a => b | c _ a", "bbAabb", 0);
+        judged("A:a => (b | c) _ (a)", "bbAabb", 0);
+        judged("A:a => (b | c) _ (a)", "bbAaaa", 1);
+        judged("A:a => a b | c _ , (a | b) c _ , (c) _ #", "ccAa", 1);
+        judged("A:a => b | c _ # , a _", "bbAabb", 0);
+        judged("A:a => (b | c) b _ , (a) a _", "bbaaAa", 0);
+        judged("A:a => ((b | c) a | (b) c) _", "ccccAa", 0);
+        judged("A:a => ((b | c) a | (b) c) _", "bbccAa", 1);
+        House house = House.of(LETTERS + "rule r A:a => b | (b | c) c _ ; rule q A:a => a (a) _ ;");
+        House.due("holds()", house.holds("bbAa"), 1);
+        House.due("the second rule takes nothing of the first", house.it.rule(1), 0);
+        House.due("holds()", house.holds("bbaaAa"), 0);
+        House.due("holds()", house.holds("aaaaAa"), 1);
+        House.due("the second rule", house.it.rule(1), 1);
+    }
+
+    private static void theLastAtom() {
+        House.asks("25th ATOM: the 24th counts as the first one does");
+        for (int at = 0; at < 24; at++) {
+            StringBuilder s = new StringBuilder();
+            for (int i = 0; i < 24; i++) {
+                s.append(i > 0 ? "|" : "").append(i == at ? "c" : "b");
+            }
+            judged("A:a => " + s + " _", "ccAa", 1);
+            judged("A:a => _ " + s, "Aacc", 1);
+            judged("A:a /<= " + s + " _", "ccAa", 0);
+            judged("A:a => " + s + " _", "aaAa", 0);
+        }
+        judged("A:a => # " + "b ".repeat(15) + "_, # " + "b? ".repeat(6) + "_ #", "bb".repeat(6) + "Aa", 1);
+        judged("A:a => # " + "b ".repeat(15) + "_, # " + "b? ".repeat(6) + "_ #", "bb".repeat(7) + "Aa", 0);
+        judged("A:a => # " + "b ".repeat(15) + "_, # " + "b? ".repeat(6) + "_ #", "bb".repeat(15) + "Aa", 1);
+    }
+
     private static void longestStrings() {
         House.asks("6: .. more than 32");
         judged("A:a => _ b* #", "Aa" + "bb".repeat(15), 1);
@@ -276,6 +319,60 @@ public final class FormEdgesTest {
         House.due("differ(0, 3)", house.it.differ(0, 3), code(0, 1));
         House.due("differ(1, 3)", house.it.differ(1, 3), code(0, 1));
         House.due("differ(3, 1)", house.it.differ(3, 1), code(0, 2));
+    }
+
+    private static void differAtTheBorder() {
+        House.asks("8: .. of which rule r holds and rule s does not");
+        House house = House.of("letters a b; lexicon Root { } rule all a:a => _; rule first b:b => # _; rule last b:b => _ #; rule never b:b /<= # _ #;"
+                + "rule ahead b:b /<= # _; rule behind b:b /<= _ #;");
+        for (int turn = 0; turn < 2; turn++) {
+            House.due("differ(0, 1)", house.it.differ(0, 1), code(0, 1));
+            House.due("differ(0, 2)", house.it.differ(0, 2), code(1, 0));
+            House.due("differ(0, 3)", house.it.differ(0, 3), code(1));
+            House.due("differ(1, 2)", house.it.differ(1, 2), code(1, 0));
+            House.due("differ(2, 1)", house.it.differ(2, 1), code(0, 1));
+            House.due("differ(1, 4)", house.it.differ(1, 4), code(1));
+            House.due("differ(4, 1)", house.it.differ(4, 1), code(0, 1));
+            House.due("differ(5, 2)", house.it.differ(5, 2), code(1, 0));
+            House.due("differ(4, 5)", house.it.differ(4, 5), code(0, 1));
+            House.due("differ(3, 4)", house.it.differ(3, 4), code(1, 0));
+        }
+    }
+
+    private static void differOfForbidden() {
+        House.asks("8: of these the first by the number of the first pair that differs");
+        House house = House.of("letters a b A; pair A:a A:b A:0; lexicon Root { } rule r A:a <= b _; rule s A:a <= _; rule t A:b <= _; rule u A:b <= b _;");
+        // pairs: a:a 0, b:b 1, A:a 2, A:b 3, A:0 4
+        House.due("differ(0, 1)", house.it.differ(0, 1), code(3));
+        House.due("differ(1, 0)", house.it.differ(1, 0), 0);
+        House.due("differ(0, 2)", house.it.differ(0, 2), code(2));
+        House.due("differ(1, 2)", house.it.differ(1, 2), code(2));
+        House.due("differ(2, 1)", house.it.differ(2, 1), code(3));
+        House.due("differ(0, 3)", house.it.differ(0, 3), code(1, 2));
+        House.due("differ(3, 0)", house.it.differ(3, 0), code(1, 3));
+    }
+
+    private static void differOfAllPairs() {
+        House.asks("8: .. 32 times that and the pair's number");
+        String letters = "abcdefghijklmn";
+        String told = "a:b a:c a:d b:a b:c b:d c:a c:b c:d n:0";
+        StringBuilder each = new StringBuilder();
+        StringBuilder but = new StringBuilder();
+        String[] pairs = (letters.replaceAll("(.)", "$1:$1 ") + told).split(" ");
+        for (int p = 0; p < 24; p++) {
+            each.append(p > 0 ? "|" : "").append(pairs[p]);
+            but.append(p > 0 ? "|" : "").append(p == 22 ? "#" : pairs[p]);
+        }
+        House house = House.of("letters " + letters.replaceAll("(.)", "$1 ") + "; pair " + told + "; lexicon Root { } rule all a:a => _; "
+                + "rule one n:0 => (" + each + ") _; rule two n:0 => (" + but + ") _; rule three n:0 /<= (" + each + ") _;");
+        House.due("count(1)", house.it.count(1), 24);
+        for (int turn = 0; turn < 20; turn++) {
+            House.due("differ(0, 1)", house.it.differ(0, 1), code(23));
+            House.due("differ(1, 2)", house.it.differ(1, 2), code(22, 23));
+            House.due("differ(2, 1)", house.it.differ(2, 1), code(23));
+            House.due("differ(0, 3)", house.it.differ(0, 3), code(0, 23));
+            House.due("differ(2, 3)", house.it.differ(2, 3), code(0, 23));
+        }
     }
 
     private static void differRefused() {
@@ -353,6 +450,22 @@ public final class FormEdgesTest {
         House.due("form(0, 0)", over.it.form(0, 0), 'b');
         House.due("104", House.of(HUNDRED).forms("AAAa"), -2);
         House.due("4 to the 8th", House.of(HUNDRED).forms("aaaaaaaa"), -2);
+    }
+
+    private static void formsOfEightRules() {
+        House.asks("A pair string is GOOD, if all rules hold of it.");
+        StringBuilder s = new StringBuilder("letters a b c d e f g h A B C; pair A:a A:b A:c B:d B:e B:f C:g C:h; lexicon Root { }");
+        String[] pairs = {"A:a", "A:b", "A:c", "B:d", "B:e", "B:f", "C:g", "C:h"};
+        for (int r = 0; r < 8; r++) {
+            s.append("rule r").append(r).append(' ').append(pairs[r]).append(" /<= _;");
+        }
+        for (int r = 0; r < 8; r++) {
+            House house = House.of(s.toString().replace(pairs[r] + " /<= _;", pairs[r] + " => _;"));
+            House.due("forms() of A", house.forms("A"), r < 3 ? 1 : 0);
+            House.due("forms() of B", house.forms("B"), r >= 3 && r < 6 ? 1 : 0);
+            House.due("forms() of C", house.forms("C"), r >= 6 ? 1 : 0);
+            House.due("forms() of eight", house.forms("abcdefgh"), 1);
+        }
     }
 
     private static void formBytes() {

@@ -8,6 +8,7 @@ public final class FuzzTest {
             desk(seed);
             spoilt(seed);
             sentences(seed);
+            again(seed);
         }
         System.out.println(Twins.wrong() == 0 ? "class and oracle agree" : Twins.wrong() + " answers differ");
         System.exit(Twins.wrong() == 0 ? 0 : 1);
@@ -132,6 +133,36 @@ public final class FuzzTest {
         twins.tell(tongue.sentenceText());
         twins.read();
         sentences(tongue, twins);
+    }
+
+    /** Several texts on one object, some of them with a fault, and calls behind each. */
+    private static void again(int seed) {
+        Twins twins = new Twins("again " + seed);
+        for (int round = 0; round < 5; round++) {
+            Tongue tongue = new Tongue(9000011L * seed + round);
+            twins.lay(tongue.upTo(7));
+            twins.tell(tongue.odds(25) ? tongue.spoilt(tongue.text()) : tongue.odds(25) ? tongue.roughText()
+                    : tongue.odds(40) ? tongue.sentenceText() : tongue.text());
+            twins.read();
+            for (int what = 0; what <= 13; what++) {
+                twins.count(what);
+            }
+            twins.rule(0);
+            twins.form(0, 0);
+            twins.way(0, 0);
+            twins.candidates();
+            twins.nearby(0, 0);
+            twins.reading(0, 0);
+            twins.octet(0);
+            forms(tongue, twins);
+            words(tongue, twins);
+            sentences(tongue, twins);
+            twins.tell(tongue.odds(70) ? tongue.structure() : tongue.roughStructure(3));
+            twins.lay(tongue.upTo(7));
+            twins.unify(tongue.upTo(7), tongue.upTo(7), tongue.upTo(7));
+            twins.write(0, tongue.upTo(7));
+            twins.above(tongue.upTo(7), tongue.upTo(7));
+        }
     }
 
     private static void desk(int seed) {

@@ -1,5 +1,8 @@
 /** A SentenceHouse with a tape that takes texts of any size, and a count of wrong answers. */
 final class House {
+    /** So many wrong answers are told, the others are counted. */
+    private static final int TOLD = 50;
+
     private static int wrong;
     private static String sentence = "";
 
@@ -21,6 +24,9 @@ final class House {
     static void due(String what, String got, String want) {
         if (!got.equals(want)) {
             wrong++;
+            if (wrong > TOLD) {
+                return;
+            }
             System.out.println(what + " answered " + got + ", due is " + want);
             if (!sentence.isEmpty()) {
                 System.out.println("  asked by: " + sentence);

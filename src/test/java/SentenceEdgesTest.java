@@ -12,6 +12,7 @@ public final class SentenceEdgesTest {
         removePlaces();
         parseWithout();
         atomsOfCat();
+        catsThatAreNoAtoms();
         pathsAtAtoms();
         ringsAside();
         sizesOfForty();
@@ -22,7 +23,9 @@ public final class SentenceEdgesTest {
         manyWithin();
         manyWords();
         readingOrder();
+        chainOrder();
         theBest();
+        theBestOfTheLatest();
         theLargestCosts();
         theTwelfthRule();
         fortyKept();
@@ -206,6 +209,21 @@ public final class SentenceEdgesTest {
         }
     }
 
+    private static void catsThatAreNoAtoms() {
+        House.asks("first the nodes x0.cat and an ATOM S are unified, x1.cat and A, x2.cat and B");
+        // three analyses: would the rules be put upon them there were more than 30 trees
+        House house = House.of("letters a b; lexicon Root { " + "a -> end {cat {s s}}; ".repeat(3) + "b -> end {cat s}; } " + "grammar t -> s;".repeat(11)
+                + "grammar s -> s s; start s;");
+        house.only("a");
+        House.due("parse() of a", house.it.parse(), 0);
+        house.only("b", "a");
+        House.due("parse() of b a", house.it.parse(), 0);
+        house.only("a", "b");
+        House.due("parse() of a b", house.it.parse(), 0);
+        house.only("b", "b");
+        House.due("parse() of b b", house.it.parse(), 1);
+    }
+
     /** What comes of one rule upon structures for a and b. */
     private static void applied(String a, String b, String equations, String due) {
         House house = House.of("letters a b; lexicon Root { a -> end " + a + "; b -> end " + b + "; } grammar s -> t u : " + equations + "; start s;");
@@ -218,6 +236,8 @@ public final class SentenceEdgesTest {
         House.asks("A PATH goes down by FEATURES; one that is missing comes (EMPTY); at an ATOM it fails.");
         applied("{cat t f p}", "{}", "x0.f = x1.f", "{cat s f p}");
         applied("{cat t f p}", "{}", "x0.f = x1.f.g", "NONE");
+        applied("{cat t f p}", "{}", "x0.f = x1.f.g.h.i", "NONE");
+        applied("{cat t f p}", "{}", "x1.cat.a.b.c = x0.f", "NONE");
         applied("{cat t f {}}", "{}", "x0.f = x1.f.g", "{cat s f {}}");
         applied("{cat t}", "{}", "x0.f = x1.f.g.h.i", "{cat s f {}}");
         applied("{cat t}", "{}", "x0.f.g.h.i = x1.f.g.h.i", "{cat s f {g {h {i {}}}}}");
@@ -466,6 +486,45 @@ public final class SentenceEdgesTest {
                 House.due("cost " + k, house.it.reading(k, 0), costs[i][k]);
                 House.due("best " + k, house.it.reading(k, 3), k == best[i] ? 1 : 0);
                 House.due("node " + k, house.it.node(k, 0, 0), 33 + k);
+            }
+        }
+    }
+
+    private static void chainOrder() {
+        House.asks("then by the rule's number; .. then by the first tree");
+        House house = House.of("letters a; lexicon Root { a -> end {cat s}; } grammar s -> s : x1.f = p, x0.f = p; grammar t -> s; grammar s -> s s : "
+                + "x1.f = q, x2.f = q; start t;");
+        house.only("a", "a");
+        House.due("parse()", house.it.parse(), 2);
+        // the rule 1 upon the rule 0 comes ahead of the rule 1 upon the rule 2
+        House.due("the first", house.tree(0), "1[01] 0[01] 2[01] 32[00] 32[11]");
+        House.due("the second", house.tree(1), "1[01] 2[01] 32[00] 32[11]");
+        House above = House.of("letters a; lexicon Root { a -> end {cat s}; } grammar s -> s s : x1.f = q, x2.f = q; grammar t -> s; grammar s -> s : "
+                + "x1.f = p, x0.f = p; start t;");
+        above.only("a", "a");
+        House.due("parse()", above.it.parse(), 2);
+        House.due("the first", above.tree(0), "1[01] 0[01] 32[00] 32[11]");
+        House.due("the second", above.tree(1), "1[01] 2[01] 0[01] 32[00] 32[11]");
+        House three = House.of("letters a; lexicon Root { a -> end {cat s}; } grammar t -> t; grammar t -> s; grammar s -> s; start t;");
+        three.only("a");
+        House.due("parse()", three.it.parse(), 4);
+        String[] due = {"0[00] 1[00] 32[00]", "0[00] 1[00] 2[00] 32[00]", "1[00] 32[00]", "1[00] 2[00] 32[00]"};
+        for (int k = 0; k < 4; k++) {
+            House.due("tree " + k, three.tree(k), due[k]);
+        }
+    }
+
+    private static void theBestOfTheLatest() {
+        House.asks("26: 3: 1 if it is THE BEST, else 0.");
+        House house = House.of("letters a b c; start s; lexicon Root { a -> end 3 {cat s}; a -> end 2 {cat s}; a -> end 1 {cat s}; b -> end 4 {cat s}; "
+                + "b -> end 4 {cat s}; c -> end 9 {cat s}; }");
+        String[] words = {"a", "b", "c", "a", "c", "b"};
+        int[] readings = {3, 2, 1, 3, 1, 2};
+        int[] best = {2, 0, 0, 2, 0, 0};
+        for (int i = 0; i < words.length; i++) {
+            House.due("parse() of " + words[i], house.only(words[i]).it.parse(), readings[i]);
+            for (int k = 0; k < 3; k++) {
+                House.due("best", house.it.reading(k, 3), k >= readings[i] ? -1 : k == best[i] ? 1 : 0);
             }
         }
     }

@@ -11,6 +11,7 @@ public final class TapeEdgesTest {
         feedOrder();
         backToNothing();
         backRefused();
+        whatWentIsGone();
         fullTapeIsRead();
         blanks();
         notes();
@@ -172,6 +173,38 @@ public final class TapeEdgesTest {
         House.due("back(5001) of 5,000", full.back(5001), -1);
         House.due("back(4999)", full.back(4999), 1);
         House.due("back(2)", full.back(2), -1);
+    }
+
+    /** What read() answers of a text cut short by back(), with its other bytes behind the tape's end still. */
+    private static void cut(String text, int to) {
+        House whole = new House();
+        whole.tell(text + " ".repeat(4)).it.back(4 + text.length() - to);
+        House.due("the first " + to + " bytes of " + text, whole.it.read(), House.fault(text.substring(0, to)));
+    }
+
+    private static void whatWentIsGone() {
+        House.asks("3: The last n bytes of the tape go");
+        String[] texts = {"letters a b;lexicon Root{ab->end 123{f#1=g h#1};}grammar s->s s 5:x0.f=x1;start ss;",
+            "letters a b;set Sab=a b;pair a:b;rule rr a:b<=>_ Sab;rule q a:a=>(a|b)*_;rule p a:a/<=#_;lexicon Root{}%x\n", "%%\n%;\nlexicon Root{}"};
+        for (String text : texts) {
+            for (int to = 0; to <= text.length(); to++) {
+                cut(text, to);
+            }
+        }
+        House.due("the end of a number", House.fault("lexicon Root { 0 -> end 5"), 1 + 16L * 25);
+        House house = new House();
+        house.tell("lexicon Root { 0 -> end 5a").it.back(1);
+        House.due("a letter went behind it", house.it.read(), 1 + 16L * 25);
+        house.tell("lexicon Root { 0 -> end 1234").it.back(1);
+        House.due("a digit went behind it", house.it.read(), 1 + 16L * 27);
+        house.tell("start abcdefghijklm").it.back(1);
+        House.due("a 13th sign went", house.it.read(), 1 + 16L * 18);
+        house.tell("grammar s ->").it.back(1);
+        House.due("the sign's second byte went", house.it.read(), 1 + 16L * 10);
+        house.tell("rule r a:a <=>").it.back(1);
+        House.due("the sign's third byte went", house.it.read(), 1 + 16L * 13);
+        house.tell("rule r a:a /<=").it.back(1);
+        House.due("the sign's third byte went", house.it.read(), 1 + 16L * 11);
     }
 
     /** A text whose last byte is the tape's 5,000th, with blanks ahead of it. */

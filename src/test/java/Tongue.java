@@ -357,7 +357,7 @@ final class Tongue {
         StringBuilder s = new StringBuilder();
         int n = upTo(8);
         for (int k = 0; k < n; k++) {
-            s.append(one(pairs).replace(":", ""));
+            s.append(pairs.isEmpty() ? "aa" : one(pairs).replace(":", ""));
         }
         return s.toString();
     }

@@ -17,11 +17,13 @@ public final class WordEdgesTest {
         structuresOfForty();
         wayNumbers();
         candidateNumbers();
+        sixteenPairs();
         candidatesOfTheLatest();
         nearSizes();
         nearRefused();
         nearAtTheRims();
         nearEachOnce();
+        nearByALaterCandidate();
         nearOfMany();
         nearOfFourteenLetters();
         nearbyBytes();
@@ -295,6 +297,26 @@ public final class WordEdgesTest {
         House.due("what 10", house.it.candidate(0, 10), -1);
     }
 
+    private static void sixteenPairs() {
+        House.asks("13: 5 .. 20: its pairs.");
+        House house = House.of("letters n m l k j i h g f e d c b a; pair n:0; lexicon Root { abcdef -> B; fedcba -> B; } lexicon B { ghijkl -> C; } "
+                + "lexicon C { mnab -> end; mna -> end; ba -> end; }");
+        String deep = "abcdefghijklmnab";
+        House.due("analyse()", house.analyse(deep), 1);
+        for (int i = 0; i < 16; i++) {
+            House.due("pair " + i, house.it.candidate(0, 5 + i), 13 - (deep.charAt(i) - 'a'));
+        }
+        House.due("none behind", house.it.candidate(0, 21), -1);
+        deep = "fedcbaghijklba";
+        House.due("analyse()", house.analyse(deep), 1);
+        for (int i = 0; i < 16; i++) {
+            House.due("pair " + i, house.it.candidate(0, 5 + i), i < 14 ? 13 - (deep.charAt(i) - 'a') : -1);
+        }
+        House.due("a pair n:0", house.analyse("abcdefghijklmab"), 1);
+        House.due("pair 13", house.it.candidate(0, 18), 14);
+        House.due("pair 15", house.it.candidate(0, 20), 12);
+    }
+
     private static void candidatesOfTheLatest() {
         House.asks("14: How many candidates it has; MANY; 0 before the first one.");
         String text = PLAIN;
@@ -392,6 +414,19 @@ public final class WordEdgesTest {
         House.due("the first", house.nearby(0), "aab");
         House.due("near() of bbbb", house.near("bbbb"), 0);
         House.due("none", house.it.nearby(0, 0), -1);
+    }
+
+    private static void nearByALaterCandidate() {
+        House.asks("15: .. and have an ANALYSIS");
+        House house = House.of("letters a b A; pair A:a A:0; rule r A:a /<= _ a, _ A:0; lexicon Root { Aa -> end; AA -> end; aA -> B {f p}; } "
+                + "lexicon B { 0 -> end {f q}; 0 -> end {f p}; }");
+        // of a: A:a A:0 is not GOOD, A:0 A:a is, A:0 a is
+        House.due("near() of b", house.near("b"), 1);
+        House.due("the first", house.nearby(0), "a");
+        House.due("near() of aaa", house.near("aaa"), 1);
+        House.due("the first", house.nearby(0), "aa");
+        House bad = House.of("letters a b A; pair A:a; rule r A:a /<= _; lexicon Root { A -> end; bA -> end; }");
+        House.due("none is GOOD", bad.near("b"), 0);
     }
 
     private static void nearOfMany() {
