@@ -12,9 +12,10 @@ public final class ReadAgainTest {
         "letters b a; lexicon Root { a -> end; b -> end; ab -> end {cat s}; }",
         // the same names for other things
         "lexicon Next { b -> end {cat t}; a -> end {cat s}; } lexicon Root { 0 -> Next; a -> Root; c -> end {cat s}; } letters A c b a; pair A:c c:0; "
-            + "set Sb = a; rule r A:c => _ Sb; rule q c:0 /<= Sb _; grammar s -> s t; grammar s -> t s 9; start t;",
+            + "set Sb = a; rule r A:c => _ a c, a b _ b c, c c b _; rule q c:0 /<= # a c _ b a; grammar s -> s t; grammar s -> t s 9; "
+            + "grammar s -> s s : x0 = x2; start s;",
         // rules with one tree, paths without names
-        "letters a b c; pair a:b a:c b:a; rule p a:b => a _ #; rule r a:c <= _;"
+        "letters a b c; pair a:b a:c b:a; rule p a:b => _ a | b | c; rule r a:c <= # b* _;"
             + "lexicon Root { a -> end {cat s f p}; b -> end {cat t f {}}; c -> end {cat {}}; } grammar s -> s : x0 = x1; grammar t -> s : x0.f = x1.f; "
             + "grammar s -> t t : x0 = x0, x1 = x2; start s;",
         // nothing
@@ -117,7 +118,9 @@ public final class ReadAgainTest {
                 add(s, house.it.differ(r, q));
             }
         }
-        for (String pairs : new String[] {"Aa", "Ab", "A0", "bbAa", "bbccAa", "aabbAacc", "aaAabb", "aab0", "aabbaab0", "abcc", "aaab", "Accc", "aac0", "ac"}) {
+        for (String pairs : new String[] {"Aa", "Ab", "A0", "bbAa", "bbccAa", "aabbAacc", "aaAabb", "aab0", "aabbaab0", "abcc", "aaab", "Ac", "ac",
+            "Acaacc", "Acaa", "Accc", "aabbAcbbcc", "bbAcbbcc", "aaAcbbcc", "aabbAcbb", "ccbbAc", "ccccbbAc", "aaccc0bbaa", "aaaaccc0bbaa",
+            "ccc0bbaa", "aaccc0bb", "aaccc0aa"}) {
             add(s, house.holds(pairs));
             add(s, house.it.rule(0));
             add(s, house.it.rule(1));
