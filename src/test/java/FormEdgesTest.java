@@ -21,6 +21,7 @@ public final class FormEdgesTest {
         longestStrings();
         differSizes();
         differOrder();
+        differOneBehindAnother();
         differAtTheBorder();
         differOfForbidden();
         differOfAllPairs();
@@ -319,6 +320,18 @@ public final class FormEdgesTest {
         House.due("differ(0, 3)", house.it.differ(0, 3), code(0, 1));
         House.due("differ(1, 3)", house.it.differ(1, 3), code(0, 1));
         House.due("differ(3, 1)", house.it.differ(3, 1), code(0, 2));
+    }
+
+    private static void differOneBehindAnother() {
+        House.asks("8: of these the first by the number of the first pair that differs");
+        House house = House.of("letters a b c d; lexicon Root { } rule all a:a => _; rule r d:d /<= _; rule q a:a /<= c _, d _; rule p b:b /<= _;");
+        for (int turn = 0; turn < 3; turn++) {
+            House.due("differ(0, 1)", house.it.differ(0, 1), code(3));
+            House.due("differ(0, 2)", house.it.differ(0, 2), code(2, 0));
+            House.due("differ(1, 2)", house.it.differ(1, 2), code(2, 0));
+            House.due("differ(0, 3)", house.it.differ(0, 3), code(1));
+            House.due("differ(2, 3)", house.it.differ(2, 3), code(1));
+        }
     }
 
     private static void differAtTheBorder() {
