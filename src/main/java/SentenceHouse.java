@@ -2984,7 +2984,7 @@ public final class SentenceHouse {
 
         /** Puts the trees of rules with one tree on the bench, over all that lies there; false: too many. */
         private boolean growChains() {
-            for (int t = 0; t < bench.size; t++) {
+            for (int t = 0; t < bench.size && t < TREE_LIMIT; t++) {
                 int[] tree = bench.trees[t];
                 int used = tree[Row.CHAIN];
                 for (int g = 0; g < text.grammarCount; g++) {

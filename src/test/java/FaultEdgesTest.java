@@ -172,6 +172,9 @@ public final class FaultEdgesTest {
         House.faultDue(3, entry + "{f #1=p g ^#01=q}; }");
         House.faultDue(3, entry + "{f #1={g ^#1=p}}; }");
         House.faultDue(3, entry + "{f #1 g #1=p h #1 i ^#1={} j #1=q}; }");
+        House.faultDue(3, entry + "{f #1=p g #2=q h ^#1=p}; }");
+        House.faultDue(3, entry + "{f #2=p g #1=q h ^#2={}}; }");
+        House.faultDue(3, entry + "{a #0=p b #1=p c #2=p d #3=p e #4=p f #5=p g #6=p h #7=p i #8=p j #9=p k ^#0=p l #9=p}; }");
         House.fine(entry + "{f #1 g #1=p h #1 i #2=p}; }");
         House.fine(entry + "{f #1=p}; a -> end {f #1=q}; }");
         House.fine(entry + "{f #0 g #0 h #0}; }");

@@ -42,6 +42,7 @@ public final class ReadAgainTest {
             }
         }
         faultsBetween(due);
+        faultsBehind();
         House.close("ReadAgainTest");
     }
 
@@ -85,6 +86,31 @@ public final class ReadAgainTest {
                     House.due("part " + part + " of text " + t + " behind a fault", answers(house, part), due[t][part]);
                 }
             }
+        }
+    }
+
+    /** What older texts told is told no more: the same faults as on a new object. */
+    private static void faultsBehind() {
+        House.asks("4: 0: what was told before is gone: a text is read for itself alone");
+        String[] faulty = {"", "letters a;", "lexicon Next { }", "lexicon Root { a -> end; }", "lexicon Root { 0 -> Next; }", "lexicon Root { } set Sb = a;",
+            "lexicon Root { } pair a:b;", "letters a; lexicon Root { } rule r a:a => Sb _;", "letters a b A; lexicon Root { } rule r A:a => _;",
+            "lexicon Root { } rule r a:a => _;"};
+        for (int a = 0; a < TEXTS.length; a++) {
+            for (int b = 0; b < TEXTS.length; b++) {
+                House house = House.of(TEXTS[a]);
+                House.due("read()", house.read(TEXTS[b]), 0);
+                for (String text : faulty) {
+                    int fault = House.fault(text);
+                    House.due("a fault of " + text, fault > 0 ? 1 : 0, 1);
+                    House.due(text + " behind " + a + " and " + b, house.read(text), fault);
+                }
+            }
+        }
+        for (String once : new String[] {"start s;", "set Sa = a;", "rule r a:a => _;", "letters b;", "pair B:a;", "lexicon Next { }"}) {
+            String text = "letters a B; lexicon Root { } " + once;
+            House house = House.of(text);
+            House.due("read() again", house.read(text), 0);
+            House.due("and again", house.read(text), 0);
         }
     }
 
